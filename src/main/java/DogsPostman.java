@@ -90,7 +90,6 @@ public final class DogsPostman {
             return FAULT_BASE - reader.at;
         }
         now.takeFrom(spare);
-        now.pasts = 0;
         return items;
     }
 

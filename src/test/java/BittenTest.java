@@ -53,6 +53,33 @@ public final class BittenTest {
         CHECK.due("status(0)", x.status(0), 4);
     }
 
+    /** All that there may be, and less behind it. */
+    private static void most() {
+        DogsPostman x = new DogsPostman();
+        for (int c = 0; c < 4; c++) {
+            x.man(c, 0);
+        }
+        for (int k = 0; k < 7; k++) {
+            x.dog(2, 1 + k % 5, 1, 3);
+        }
+        CHECK.due("bitten(0, 0) by seven", x.bitten(0, 0), 127);
+        CHECK.due("bitten(0, 1) by seven", x.bitten(0, 1), 2 * (1 + 2 + 3 + 4 + 5 + 1 + 2));
+        // Bitten are 0 and 1, 1 and 2, 2 and 0, 0 and 1.
+        CHECK.due("won(2, 1) of four", x.won(2, 1), 1);
+        CHECK.due("won(2, 0) of four", x.won(2, 0), 0);
+        CHECK.due("won(3, 1) of four", x.won(3, 1), 0);
+        CHECK.due("won(4, 0) of four", x.won(4, 0), 2);
+        x.round(4);
+        x.village();
+        CHECK.due("won(0, 1) of nobody", x.won(0, 1), -1);
+        x.man(0, 0);
+        x.dog(0, 1, 1, 3);
+        CHECK.due("bitten(0, 0) by one", x.bitten(0, 0), 1);
+        CHECK.due("bitten(0, 1) by one", x.bitten(0, 1), 1);
+        CHECK.due("won(1, 1) of one", x.won(1, 1), 0);
+        CHECK.due("letters() of one", x.letters(), 1);
+    }
+
     /** Boots 3, 8, 5; dogs as in a village of the document's tests, dog 0 asleep. */
     private static DogsPostman hill() {
         DogsPostman x = new DogsPostman();
@@ -105,6 +132,11 @@ public final class BittenTest {
         CHECK.due("won(0, 2)", x.won(0, 2), -2);
         CHECK.due("won(0, -1)", x.won(0, -1), -2);
         CHECK.due("status(0)", x.status(0), 4);
+        DogsPostman one = new DogsPostman();
+        one.man(0, 0);
+        one.dog(0, 1, 1, 3);
+        CHECK.due("one hole is enough, postman", one.won(1, 0), 0);
+        CHECK.due("one hole is enough, to go", one.won(1, 1), 0);
         DogsPostman like = new DogsPostman();
         like.man(9, 0);
         like.man(0, 0);
@@ -120,6 +152,17 @@ public final class BittenTest {
         CHECK.due("letters(), who sleeps too", x.letters(), 11);
         x.round(1);
         CHECK.due("letters() behind a round", x.letters(), 11);
+        DogsPostman soon = new DogsPostman();
+        soon.man(0, 9);
+        soon.man(0, 9);
+        soon.dog(0, 1, 1, 1);
+        soon.dog(4, 1, 1, 3);
+        // Behind round 0 candidate 0 has 3 and 1 none; behind round 1 they have 4 and 2.
+        CHECK.due("letters() of this round, not the next", soon.letters(), 3);
+        CHECK.due("won(1, 0)", soon.won(1, 0), 0);
+        CHECK.due("won(2, 0)", soon.won(2, 0), 1);
+        soon.round(1);
+        CHECK.due("letters() of the next", soon.letters(), 2);
         DogsPostman nobody = new DogsPostman();
         CHECK.due("letters() of no dogs", nobody.letters(), 0);
         nobody.dog(0, 1, 1, 0);
@@ -155,6 +198,22 @@ public final class BittenTest {
         CHECK.due("bribes(0, 2)", x.bribes(0, 2), -2);
         CHECK.due("bribes(0, -1)", x.bribes(0, -1), -2);
         CHECK.due("status(0)", x.status(0), 4);
+        // An old dog bites 0, 1, 0: 4 and 2; in round 3 it would bite 1, and 0 would win.
+        DogsPostman all = new DogsPostman();
+        all.man(0, 30);
+        all.man(0, 30);
+        all.dog(4, 1, 5, 3);
+        all.round(3);
+        CHECK.due("bribes(0, 0)", all.bribes(0, 0), 0);
+        CHECK.due("bribes(1, 0): all dogs must sleep", all.bribes(1, 0), 5);
+        CHECK.due("bribes(1, 1): all dogs must sleep", all.bribes(1, 1), 1);
+        all.dog(0, 2, 9, 0);
+        all.dog(0, 3, 9, 0);
+        all.dog(0, 2, 7, 0);
+        CHECK.due("bribes(1, 0): all ham there can be", all.bribes(1, 0), 30);
+        CHECK.due("bribes(1, 1)", all.bribes(1, 1), 15);
+        all.dog(0, 2, 1, 0);
+        CHECK.due("bribes(1, 0): more than there can be", all.bribes(1, 0), -1);
         // Dogs 1 and 2 are alike: dog 1 is the least set; then dog 1 sleeps already, and dog 2 is left.
         DogsPostman y = new DogsPostman();
         y.man(0, 4);
@@ -199,6 +258,32 @@ public final class BittenTest {
         y.bribe(1, 0);
         CHECK.due("who sleeps now sleeps in the first", y.still(1), 3);
         CHECK.due("nothing is changed", y.count(2), 3);
+        // An old dog (2 wide) bites the first of each round, a mastiff (2 wide) 0 and 2 in each:
+        // 4 0 2; 6 2 4; 8 2 8.
+        DogsPostman w = new DogsPostman();
+        w.man(1, 9);
+        w.man(1, 9);
+        w.man(1, 9);
+        w.dog(4, 1, 3, 3);
+        w.dog(2, 1, 3, 1);
+        CHECK.due("still(0)", w.still(0), -1);
+        CHECK.due("still(1)", w.still(1), 2);
+        CHECK.due("still(2)", w.still(2), 1);
+        w.round(1);
+        CHECK.due("still(1) in round 1", w.still(1), 1);
+        w.bribe(0, 0);
+        // 6 0 4; 8 0 8; 12 0 10; 14 2 12.
+        CHECK.due("still(0) in round 1, dog 0 asleep", w.still(0), 2);
+        CHECK.due("still(1) in round 1, dog 0 asleep", w.still(1), 4);
+        CHECK.due("still(2) in round 1, dog 0 asleep", w.still(2), 1);
+        w.undo();
+        w.undo();
+        w.bribe(0, 0);
+        w.bribe(1, 1);
+        // 0 0 0; 2 2 2; 4 2 6.
+        CHECK.due("all asleep in the first", w.still(0), 2);
+        CHECK.due("all asleep in the first", w.still(1), 3);
+        CHECK.due("all asleep in the first", w.still(2), -1);
         DogsPostman z = new DogsPostman();
         z.man(1, 0);
         z.man(1, 30);
@@ -285,6 +370,7 @@ public final class BittenTest {
     public static void main(String[] args) {
         kinds();
         manyBites();
+        most();
         then();
         won();
         letters();

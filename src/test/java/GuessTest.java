@@ -217,7 +217,34 @@ public final class GuessTest {
                 CHECK.due("but in the first alone", x.villages(seeds[s], 2), -(sleep[s][1] >> k & 1));
             }
         }
+        villagesByRounds();
         wrongVillages();
+    }
+
+    /** Who comes first is told by the round. */
+    private static void villagesByRounds() {
+        DogsPostman x = new DogsPostman();
+        x.man(0, 9);
+        x.man(0, 9);
+        x.man(0, 9);
+        x.dog(4, 1, 1, 3);
+        // By seed 0 sleep 0, 92, 4, 101, 42, 31: dog 0 is awake but in the fourth and the sixth.
+        x.dog(1, 1, 1, 3);
+        CHECK.due("villages(0, 1)", x.villages(0, 1), 0);
+        x.round(1);
+        CHECK.due("villages(0, 1) in round 1", x.villages(0, 1), 0);
+        CHECK.due("villages(0, 2) in round 1", x.villages(0, 2), 0);
+        CHECK.due("villages(0, 3) in round 1", x.villages(0, 3), 1);
+        CHECK.due("villages(0, 4) in round 1", x.villages(0, 4), 1);
+        CHECK.due("villages(0, 5) in round 1", x.villages(0, 5), 1);
+        CHECK.due("villages(0, 6) in round 1", x.villages(0, 6), 1);
+        for (int i = 0; i < 35; i++) {
+            x.round(30);
+        }
+        CHECK.due("count(2)", x.count(2), 999);
+        long before = x.digest();
+        CHECK.due("beyond 999", x.villages(0, 1), 1);
+        CHECK.due("nothing is changed", x.digest(), before);
     }
 
     private static void wrongVillages() {

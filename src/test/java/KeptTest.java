@@ -65,6 +65,51 @@ public final class KeptTest {
         beside(x);
     }
 
+    /** All of a full village is kept: four, seven, six notes, eight that may be undone. */
+    private static void fullImage() {
+        DogsPostman x = new DogsPostman();
+        for (int i = 0; i < 7; i++) {
+            if (i < 4) {
+                x.man(i, 20 + i);
+            }
+            x.dog(i % 6, 1 + i % 5, 1 + i, i % 4);
+        }
+        for (int i = 0; i < 6; i++) {
+            x.note(i, i % 2, 9 - i, i / 3);
+        }
+        for (int i = 0; i < 8; i++) {
+            if (i % 3 == 2) {
+                x.bribe(i % 4, i % 7);
+            } else {
+                x.round(1 + i);
+            }
+        }
+        x.image(0);
+        long[] due = wayBack(x);
+        x.village();
+        x.man(5, 5);
+        x.man(5, 5);
+        x.dog(2, 5, 9, 3);
+        for (int i = 0; i < 9; i++) {
+            x.round(20);
+            x.note(0, 1, i, 1);
+        }
+        CHECK.due("from(0)", x.from(0), 1);
+        long[] got = wayBack(x);
+        for (int i = 0; i < due.length; i++) {
+            CHECK.due("digest() behind " + i + " undone", got[i], due[i]);
+        }
+    }
+
+    private static long[] wayBack(DogsPostman x) {
+        long[] digests = new long[9];
+        for (int i = 0; i < 9; i++) {
+            digests[i] = x.digest();
+            CHECK.due("undo() " + i + " is one", x.undo() >= 0 ? 1 : 0, i < 8 ? 1 : 0);
+        }
+        return digests;
+    }
+
     /** The text, the fraction, status stay where they are. */
     private static void beside(DogsPostman x) {
         x.from(1);
@@ -169,6 +214,7 @@ public final class KeptTest {
     public static void main(String[] args) {
         part();
         images();
+        fullImage();
         status();
         count();
         digest();

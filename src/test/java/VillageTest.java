@@ -195,7 +195,7 @@ public final class VillageTest {
     private static final String[] FAULTS = {
         "!", "  !", "village!", "village !", "!villa", "!villages;", "!Village;", "!man 1 1;",
         "!;", "!3;", "village;!;", "village;!village;", "village;!5;", "village !1;",
-        "village;!manx 1 1;", "village;man!", "village;man 0!", "village;man 0 0!", "village;man !10 0;",
+        "village;!manx 1 1;", "village;!manz 1 1;", "village;!aman 1 1;", "village;dog0!x 1 1 0;", "village;man!", "village;man 0!", "village;man 0 0!", "village;man !10 0;",
         "village;man 9 !31;", "village;man 9 !100;", "village;man !000 0;", "village;man 0 0 !0;", "village;man 0 !;",
         "village;man 0 0;!-", "village;man 0 0;!;", "village;man !a 0;", "village;man 0 0 !man 0 0;",
         "village;dog !6 1 1 0;", "village;dog 0 !0 1 0;", "village;dog 0 !6 1 0;", "village;dog 0 1 !0 0;",
