@@ -11,8 +11,8 @@ public final class DogsPostman {
     private final Village now;
     // A text is read into this one first, so that a fault leaves the village as it was.
     private final Village spare;
+    // One that is null was never kept.
     private final Village[] images;
-    private final boolean[] imageKept;
     private final Text text;
     private int above, below;
     private int badCalls, noCalls, fullCalls;
@@ -24,10 +24,6 @@ public final class DogsPostman {
         now = new Village();
         spare = new Village();
         images = new Village[IMAGES];
-        for (int i = 0; i < IMAGES; i++) {
-            images[i] = new Village();
-        }
-        imageKept = new boolean[IMAGES];
         text = new Text();
         above = 0;
         below = 1;
@@ -388,8 +384,12 @@ public final class DogsPostman {
         if (!within(i, 0, IMAGES - 1)) {
             return refuse(BAD);
         }
-        images[i].takeFrom(now);
-        imageKept[i] = true;
+        Village image = images[i];
+        if (image == null) {
+            image = new Village();
+            images[i] = image;
+        }
+        image.takeFrom(now);
         return 1;
     }
 
@@ -397,10 +397,11 @@ public final class DogsPostman {
         if (!within(i, 0, IMAGES - 1)) {
             return refuse(BAD);
         }
-        if (!imageKept[i]) {
+        Village image = images[i];
+        if (image == null) {
             return refuse(NO);
         }
-        now.takeFrom(images[i]);
+        now.takeFrom(image);
         return 1;
     }
 
@@ -978,25 +979,24 @@ public final class DogsPostman {
             behind = at;
             if (at >= text.length) {
                 sort = END;
-            } else if (isLetter(text.at(at))) {
-                takeWord();
-            } else if (isFigure(text.at(at))) {
-                takeNumber();
+                return;
+            }
+            behind = at + 1;
+            int b = text.at(at);
+            if (isLetter(b)) {
+                sort = WORD;
+                while (behind < text.length && isLetter(text.at(behind))) {
+                    behind++;
+                }
+            } else if (isFigure(b)) {
+                takeNumber(b - '0');
             } else {
-                sort = text.at(at) == ';' ? SEMICOLON : WRONG;
-                behind = at + 1;
+                sort = b == ';' ? SEMICOLON : WRONG;
             }
         }
 
-        void takeWord() {
-            while (behind < text.length && isLetter(text.at(behind))) {
-                behind++;
-            }
-            sort = WORD;
-        }
-
-        void takeNumber() {
-            value = 0;
+        void takeNumber(int firstFigure) {
+            value = firstFigure;
             while (behind < text.length && isFigure(text.at(behind))) {
                 // Only two figures count: a longer run is refused, so its value is free.
                 if (behind - at < 2) {
