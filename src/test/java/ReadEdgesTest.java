@@ -103,6 +103,12 @@ public final class ReadEdgesTest {
         fault(FIGURES, "the byte above 9", "village;man #: 2;");
         fault(FIGURES, "a sign", "village;man #-1 2;");
         fault(FIGURES, "a point", "village;man 1#.0 2;");
+        fault(NO_TOKEN, "where ; should stand", "village#:");
+        fault(NO_TOKEN, "where ; should stand", "village;man 1 2#,");
+        fault(NO_TOKEN, "where ; should stand", "village;dog 0 1 1 0 #.;");
+        fault(NO_TOKEN, "where ; should stand", "village;man 1 9;dog 0 1 1 0;bribe 0 0#<");
+        fault(NO_TOKEN, "where a number should stand", "village;man #+ 2;");
+        fault(THREE, "where ; should stand", "village;man 1 2 #345");
         everyByte();
     }
 
