@@ -1,13 +1,10 @@
 import java.lang.reflect.Field;
 import java.lang.reflect.Method;
 import java.lang.reflect.Modifier;
-import java.nio.charset.StandardCharsets;
-import java.nio.file.Files;
-import java.nio.file.Path;
 import java.util.Set;
 import java.util.TreeSet;
 
-/** The public face, and what of ../shared/LANGUAGE.md can be seen from outside. */
+/** The public face, and what of ../shared/LANGUAGE.md can be seen from outside; LanguageTest looks inside. */
 public final class FaceTest {
     private static final String[] FACE = {
         "int village()", "int man(int,int)", "int dog(int,int,int,int)", "int type(int)", "int clear()",
@@ -90,31 +87,11 @@ public final class FaceTest {
         }
     }
 
-    private static void words(Check check) throws java.io.IOException {
-        Path file = Path.of("src/main/java/DogsPostman.java");
-        String source = Files.readString(file, StandardCharsets.UTF_8);
-        String code = source.replaceAll("(?s)/\\*.*?\\*/", " ").replaceAll("//[^\\n]*", " ");
-        String[] ruledOut = {"throw", "try", "catch", "finally", "synchronized", "assert", "import", "package", "enum\\s*\\{",
-            "Exact", "Random", "Thread", "instanceof\\s+\\w+\\s*\\(", "hashCode", "toString", "static\\s*\\{"};
-        for (String word : ruledOut) {
-            check.isTrue("the program has no " + word,
-                !java.util.regex.Pattern.compile("\\b" + word).matcher(code).find());
-        }
-        check.isTrue("no lambda", !code.contains("->"));
-        check.isTrue("no method reference", !code.contains("::"));
-        for (int i = 0; i < source.length(); i++) {
-            if (source.charAt(i) > 126) {
-                check.isTrue("plain signs alone, place " + i, false);
-            }
-        }
-    }
-
-    public static void main(String[] args) throws java.io.IOException {
+    public static void main(String[] args) {
         Check check = new Check("FaceTest");
         methods(check);
         fields(check);
         classes(check);
-        words(check);
         check.end();
     }
 }
